@@ -1067,7 +1067,7 @@ public final class EbbWreck {
         }
 
         private void fail(int fault) {
-            if (!failed()) {
+            if (faultKind == 0) {
                 faultKind = fault;
                 faultPlace = start;
             }
@@ -1187,20 +1187,19 @@ public final class EbbWreck {
             advance();
             int cell = expectNumber(0, draft.cells - 1);
             expectWord("flood");
-            int flood = readSteps();
+            int flood = readWay() * expectNumber(0, MOST_STEPS);
             expectWord("ebb");
-            int ebb = readSteps();
+            int ebb = readWay() * expectNumber(0, MOST_STEPS);
             draft.floodSteps[cell] = flood;
             draft.ebbSteps[cell] = ebb;
         }
 
-        private int readSteps() {
-            boolean back = isWord("back") && !failed();
-            if (back) {
-                advance();
+        private int readWay() {
+            if (failed() || !isWord("back")) {
+                return 1;
             }
-            int steps = expectNumber(0, MOST_STEPS);
-            return back ? -steps : steps;
+            advance();
+            return -1;
         }
 
         private void readBeach() {

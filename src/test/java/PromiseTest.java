@@ -136,6 +136,15 @@ public final class PromiseTest {
         due("end 1184", x.end(1184), 1184);
         due("blanks alone", x.shore(), 0);
         due("tape is empty", x.count(11), 0);
+        for (int i = 1; i <= 60; i++) {
+            x.feed(0x20202020, 0x20202020, 0x20202020, 0x0a0a0a0a, 0x20202020);
+        }
+        due("a full tape of blanks", x.shore(), 0);
+        x.feed('s' << 24 | 'h' << 16 | 'o' << 8 | 'r', 'e' << 24 | 0x202020, 0x20202020, 0x20202020, 0x20202020);
+        due("cut ahead of its blanks", x.end(5), 5);
+        due("a fault at the end", x.shore(), -4);
+        due("the end's place", x.fault(1), 5);
+        x.end(0);
         x.feed('b' << 24 | 'e' << 16 | 'a' << 8 | 'c', 'h' << 24, 0, 0, 0);
         due("highest byte first", x.shore(), -4);
         due("its place", x.fault(1), 0);
@@ -211,6 +220,9 @@ public final class PromiseTest {
         faulty("Shore", 1, 0);
         faulty("shores cells 3", 1, 0);
         faulty("shor", 1, 0);
+        faulty("xhore cells 3", 1, 0);
+        faulty("shorez cells 3", 1, 0);
+        faulty("shore cells 3a", 1, 13);
         faulty("shore\tcells 3", 1, 5);
         faulty("shore cells -3", 1, 12);
         faulty("shore cells three", 1, 12);
@@ -231,6 +243,8 @@ public final class PromiseTest {
         faulty(s + "beach 3;", 2, n + 6);
         faulty(s + "beach 1", 1, n + 7);
         faulty(s + "beach;", 1, n + 5);
+        faulty(s + "beachz 1;", 1, n);
+        faulty(s + "beach 1z;", 1, n + 7);
         faulty(s + "beach 1 2;", 1, n + 8);
         faulty(s + (char) 233, 1, n);
         faulty(s + "current 3 flood 1 ebb 1;", 2, n + 8);
@@ -580,6 +594,7 @@ public final class PromiseTest {
         due("never", calm.meet(0, 1), -1);
         calm.shove(0, 399, 0);
         due("in 400", calm.meet(0, 1), 400);
+        due("in 0", told(BARE + "thing worth 1 at 1 from 0; thing worth 1 at 1 from 0;").meet(0, 1), 0);
         calm.anew();
         calm.shove(0, 400, 0);
         due("not behind 400", calm.meet(0, 1), -1);
@@ -637,6 +652,21 @@ public final class PromiseTest {
         due("first of most", y.drops(1), 11);
         due("hour 23, up in 24 at flood", y.drop(2, 23), 15);
         due("first of most 2", y.drops(2), 23);
+        // Thrown in 96 into 2 it goes up and down the shore, two cells a round of 32 hours, and is on 1 in the ebb's
+        // second hour of the tenth round: in 384 + 9 + 6 + 1.
+        due("just in 400", swapping(9, 6).drop(0, 96) >> 2 & 1, 1);
+        due("in 401, with flood 11 and slack 5", swapping(11, 5).drop(0, 96) >> 2 & 1, 0);
+    }
+
+    /** By flood 0 and 1, 2 and 3, .. are swapped each hour, by ebb 1 and 2, 3 and 4, .. */
+    private static EbbWreck swapping(int flood, int slack) {
+        StringBuilder s = new StringBuilder("shore cells 12 flood " + flood + " slack " + slack + " ebb 11 odds 0; beach 1;");
+        s.append("rule 1 to 1 on flood slack ebb to 0;");
+        for (int c = 0; c < 12; c++) {
+            String on = c == 0 || c == 11 ? "0" : "1";
+            s.append("current ").append(c).append(c % 2 == 0 ? " flood 1 ebb back " + on : " flood back 1 ebb " + on).append(';');
+        }
+        return told(s.toString());
     }
 
     // Promises 39 and 40.
@@ -887,6 +917,8 @@ public final class PromiseTest {
         due("sits as told again", x.sitter(0), 5);
         due("drifts as told", x.comes(0), 2);
         due("no acts", x.count(9), 0);
+        due("first act", x.shove(0, 7, 0), 1);
+        due("not again", x.shove(0, 7, 1), -5);
         EbbWreck edge = told(BARE + "thing worth 0 at 0 from 0; thing worth 0 at 2 from 0;");
         edge.shove(0, 5, 1);
         edge.shove(1, 5, 0);
