@@ -106,6 +106,7 @@ final class ActEdges {
         e.is(e.told(LONG + thing(0, 0, 20)), 0, "set", 0);
         e.is(e.told(LONG + thing(1, 0, 17)), 0, "set", 2);
         e.is(e.told(LONG + thing(1, 0, 17)), -7, "set", 0);
+        e.is(e.told(LONG + thing(1, 0, 34)), 1, "set", 0);
         e.says(50, "-1,000: there is none such, no SHORE.");
         int[] bad = {-1, 6, MIN, MAX};
         for (int party : bad) {
@@ -312,7 +313,9 @@ final class ActEdges {
             e.is(e.told(once(h[1])), 1, "drawn", h[0], 0, 1);
             e.is(e.told(once(h[1] + 1)), 2, "drawn", h[0], 0, 1);
         }
-        long[] seeds = {3, 17, 12345, 65535, 65536, 1999999999, LAST_SEED};
+        // By 47,902 and 42,627 the lower half of x is 65,535, and 0: it is cut, not rounded.
+        long[] seeds = {3, 17, 12345, 65535, 65536, 1999999999, LAST_SEED, 47902, 113438, 178974, 42627, 108163, 173699, 1999944478,
+            1999939203};
         for (long seed : seeds) {
             int d = draw(seed, 0);
             e.is(e.told(once(d)), 1, "drawn", seed, 0, 1);
@@ -389,7 +392,7 @@ final class ActEdges {
         e.is(x, 100, "drawn", 0, 2, 0);
         e.is(x, 2, "drawn", 0, 2, 1);
         e.is(x, -1, "drawn", 0, 2, 2);
-        EbbWreck still = e.told(shore(3, 1, 0, 1, 0) + "beach 2; rule 2 to 2 on flood ebb to 0;" + thing(1, 1, 0));
+        EbbWreck still = e.told(shore(3, 1, 0, 1, 0) + "beach 2; rule 0 to 2 on flood slack ebb to 0;" + thing(1, 1, 0));
         for (int what = 0; what < 3; what++) {
             e.is(still, -1, "drawn", LAST_SEED, 0, what);
         }
@@ -420,6 +423,15 @@ final class ActEdges {
         e.is(ever, 20, "luck", LAST_SEED, 20, 0, 3);
         e.is(ever, 1, "luck", 0, 1, 0, 3);
         e.is(ever, 0, "luck", 0, 20, 0, 0);
+        EbbWreck late = e.told(shore(3, 1, 0, 1, 0) + "beach 2; rule 0 to 2 on flood slack ebb to 0;" + thing(1, 1, 0));
+        e.is(late, 0, "luck", 0, 20, 0, 0);
+        late.shove(0, 399, 0);
+        e.is(late, 20, "luck", 0, 20, 0, 0);
+        e.is(late, 2, "waits", 0, 20, 0);
+        late.undo();
+        late.shove(0, 400, 0);
+        e.is(late, 0, "luck", 0, 20, 0, 0);
+        e.is(late, -1, "waits", 0, 20, 0);
         e.says(56, "-2: there are none such.");
         long[][] bad = {{-1, 1, 0, 0}, {LAST_SEED + 1, 1, 0, 0}, {MIN, 1, 0, 0}, {MAX, 1, 0, 0}, {0, 0, 0, 0}, {0, 21, 0, 0}, {0, -1, 0, 0},
             {0, MIN, 0, 0}, {0, MAX, 0, 0}, {0, 1, -1, 0}, {0, 1, 1, 0}, {0, 1, MIN, 0}, {0, 1, MAX, 0}, {0, 1, 0, -1}, {0, 1, 0, 6},

@@ -589,7 +589,9 @@ final class DriftEdges {
         x.undo();
         x.shove(0, 400, 0);
         e.is(x, -1, "meet", 0, 1);
-        e.is(e.told(BARE + "thing worth 1 at 1 from 0; thing worth 1 at 1 from 0;"), 0, "meet", 0, 1);
+        for (int c = 0; c < 12; c++) {
+            e.is(e.told(WIDE + "thing worth 1 at " + c + " from 0; thing worth 1 at " + c + " from 0;"), 0, "meet", 0, 1);
+        }
         e.says(31, "NONE: none;");
         x.anew();
         e.is(x, -1, "meet", 0, 1);

@@ -98,6 +98,17 @@ final class FloatEdges {
                 + " fit all: how many.");
         e.is(floats(BARE, 0), 49, "fits", 0);
         e.is(floats(BARE, 1, 2, 399, 400, 1), 7, "fits", 0);
+        int[][] tides = {{3, 1, 0, 1}, {12, 1, 0, 1}, {12, 12, 6, 12}, {5, 2, 1, 3}, {4, 1, 6, 1}};
+        for (int[] t : tides) {
+            int[] spans = {0, 0, 0, 1, 0, 12, 0, 399, 0, 400, 1, 400, 7, 36, 201, 400, 150, 251};
+            for (int s = 0; s < spans.length; s += 2) {
+                int from = s % t[0];
+                for (int to = 0; to < t[0]; to++) {
+                    EbbWreck x = floats(shore(t[0], t[1], t[2], t[3]), 1, from, spans[s], spans[s + 1], to);
+                    e.is(x, hourByHour(t, from, spans[s], spans[s + 1], to), "fits", 0);
+                }
+            }
+        }
         e.is(floats(BARE, 1, 0, 0, 400, 0, 2, 0, 0, 2), 23, "fits", 0);
         // Fifteen floats: the last alone tells that flood is 1.
         long[] most = new long[60];
@@ -112,6 +123,23 @@ final class FloatEdges {
         Edges.writeAll(other, 3, 3, 1, 0, 1, 2);
         e.is(other, 21, "fits", 3);
         e.is(floats(BARE, 0, 1, 0, 1, 2, 1, 0, 1, 0), 0, "fits", 0);
+    }
+
+    /** How many pairs take a float there, each HOUR by itself. */
+    private static int hourByHour(int[] tide, int from, int hour, int later, int to) {
+        int round = tide[1] + tide[3] + 2 * tide[2];
+        int fit = 0;
+        for (int pair = 0; pair < 49; pair++) {
+            int cell = from;
+            for (int h = hour; h < later; h++) {
+                int in = h % round;
+                boolean isEbb = in >= tide[1] + tide[2] && in < round - tide[2];
+                cell += in < tide[1] ? pair / 7 - 3 : isEbb ? pair % 7 - 3 : 0;
+                cell = Math.max(0, Math.min(tide[0] - 1, cell));
+            }
+            fit += cell == to ? 1 : 0;
+        }
+        return fit;
     }
 
     private void fitsAmiss() {
@@ -205,6 +233,19 @@ final class FloatEdges {
         e.is(end, 4, "fits", 0);
         e.is(end, 2, "fit", 0, 0);
         e.is(end, -2, "fit", 0, 1);
+        // Of (-3, 0) and (-2, 0) the other is less; with 3 steps by ebb, or by flood, the other is any.
+        EbbWreck less = floats(BARE, 0, 2, 0, 1, 0, 1, 1, 2, 1);
+        e.is(less, 2, "fits", 0);
+        e.is(less, -2, "fit", 0, 0);
+        e.is(less, 0, "fit", 0, 1);
+        for (int steps = -3; steps <= 3; steps++) {
+            EbbWreck flood = floats(WIDE, 0, 5, 0, 1, 5 + steps);
+            e.is(flood, steps, "fit", 0, 0);
+            e.is(flood, 0, "fit", 0, 1);
+            EbbWreck ebb = floats(WIDE, 0, 5, 1, 2, 5 + steps);
+            e.is(ebb, 0, "fit", 0, 0);
+            e.is(ebb, steps, "fit", 0, 1);
+        }
         e.says(42, "-1,000: no pair fits, there is no such what, or as fits() is -2, -6.");
         EbbWreck never = floats(BARE, 0, 0, 0, 0, 1);
         e.is(never, 0, "fits", 0);
@@ -246,6 +287,11 @@ final class FloatEdges {
         e.is(zero, 4, "fits", 0);
         e.is(zero, 0, "ask", 0);
         e.is(zero, 1, "leaves", 0);
+        // Of 3 CELLS, flood 0 or back: from the last one 2, 1, 1, from others 3 or 4 stay.
+        EbbWreck last = floats(shore(3, 1, 6, 12), 0, 1, 7, 8, 1, 0, 0, 1, 0);
+        e.is(last, 4, "fits", 0);
+        e.is(last, 2, "ask", 0);
+        e.is(last, 2, "leaves", 0);
         e.says(43, "NONE: none; -2, -6 as fits().");
         EbbWreck known = floats(shore(3, 12, 0, 12), 0, 0, 0, 1, 1);
         e.is(known, 7, "fits", 0);
@@ -365,6 +411,17 @@ final class FloatEdges {
         e.is(e.told(s + "thing worth 4 at 11 from 0; thing worth 1 at 0 from 0;"), 11, "seats", 0);
         e.is(e.told(BARE + "sitter at 2;"), 0, "seats", 0);
         e.is(e.told(s + "beach 1; thing worth 5 at 1 from 0; thing worth 4 at 11 from 0;"), 1, "seats", 0);
+        // Where he sits alone now he is alone, too, if he stays.
+        EbbWreck stays = e.told(s + "thing worth 7 at 0 from 0; thing worth 10 at 11 from 0;");
+        stays.sit(0, 0);
+        stays.sit(1, 5);
+        e.is(stays, 11, "seats", 0);
+        stays.anew();
+        stays.rate(0, 10);
+        stays.rate(1, 7);
+        stays.sit(0, 0);
+        stays.sit(1, 5);
+        e.is(stays, 0, "seats", 0);
         e.says(46, "-2: there is none such.");
         refusesSitters("seats");
     }

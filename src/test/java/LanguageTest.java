@@ -1,9 +1,12 @@
 import java.lang.reflect.Member;
+import java.lang.reflect.Method;
 import java.lang.reflect.Modifier;
 import java.nio.file.Files;
 import java.nio.file.Path;
 import java.util.ArrayList;
+import java.util.HashSet;
 import java.util.List;
+import java.util.Set;
 import java.util.regex.Matcher;
 import java.util.regex.Pattern;
 
@@ -20,6 +23,7 @@ public final class LanguageTest {
         String source = Files.readString(Path.of(args[0]));
         forbiddenWords(bare(source));
         longMethods(source);
+        classes();
         if (args.length > 1) {
             face(Files.readString(Path.of(args[1])));
         }
@@ -70,6 +74,37 @@ public final class LanguageTest {
         }
     }
 
+    /** Rules 1, 2 and 11, as far as the compiled classes show them. */
+    private static void classes() {
+        Set<String> face = new HashSet<>();
+        for (Method method : EbbWreck.class.getDeclaredMethods()) {
+            if (Modifier.isPublic(method.getModifiers())) {
+                face.add(method.getName());
+            }
+        }
+        List<Class<?>> all = new ArrayList<>(List.of(EbbWreck.class.getDeclaredClasses()));
+        for (Class<?> inside : all) {
+            if (!Modifier.isStatic(inside.getModifiers()) || Modifier.isPublic(inside.getModifiers())) {
+                fault(inside.getName() + " is not static, or public");
+            }
+        }
+        all.add(EbbWreck.class);
+        for (Class<?> one : all) {
+            long fields = List.of(one.getDeclaredFields()).stream().filter(f -> !Modifier.isStatic(f.getModifiers())).count();
+            if (fields > 20) {
+                fault(one.getName() + " has " + fields + " fields");
+            }
+            for (Method method : one.getDeclaredMethods()) {
+                if (!Modifier.isPublic(method.getModifiers()) && face.contains(method.getName())) {
+                    fault(one.getName() + "." + method.getName() + " bears the name of a public method");
+                }
+                if (method.getParameterCount() > 7) {
+                    fault(one.getName() + "." + method.getName() + " takes more than seven parameters");
+                }
+            }
+        }
+    }
+
     /** The public members are those of the document's face, and nothing else is visible. */
     private static void face(String document) {
         List<String> due = new ArrayList<>();
@@ -79,7 +114,7 @@ public final class LanguageTest {
             due.add(m.group(1) + "(" + m.group(2).replaceAll(" \\w+(,|$)", "$1").replace(" ", "") + ")");
         }
         List<String> got = new ArrayList<>();
-        for (java.lang.reflect.Method method : EbbWreck.class.getDeclaredMethods()) {
+        for (Method method : EbbWreck.class.getDeclaredMethods()) {
             StringBuilder s = new StringBuilder(method.getName()).append('(');
             for (Class<?> type : method.getParameterTypes()) {
                 s.append(s.charAt(s.length() - 1) == '(' ? "" : ",").append(type);

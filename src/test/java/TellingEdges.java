@@ -93,6 +93,9 @@ final class TellingEdges {
             if (!tokens[i].equals(";")) {
                 e.faulty(before + with(tokens, i, ";"), 1, at);
             }
+            if (tokens[i].matches("[a-z]+")) {
+                spelled(before, tokens, i, at);
+            }
             if (!tokens[i].matches("\\d+")) {
                 // In place of "back" a number may stand; the one behind it may not then.
                 e.faulty(before + with(tokens, i, "1"), 1, tokens[i].equals("back") ? at + 2 : at);
@@ -102,6 +105,17 @@ final class TellingEdges {
                 e.faulty((before + line).substring(0, stop), 1, stop);
             }
         }
+    }
+
+    /** Each letter of a word is looked at, and how many there are. */
+    private void spelled(String before, String[] tokens, int i, int at) {
+        String word = tokens[i];
+        for (int k = 0; k < word.length(); k++) {
+            e.faulty(before + with(tokens, i, word.substring(0, k) + "z" + word.substring(k + 1)), 1, at);
+        }
+        e.faulty(before + with(tokens, i, word.substring(1)), 1, at);
+        e.faulty(before + with(tokens, i, word.substring(0, word.length() - 1)), 1, at);
+        e.faulty(before + with(tokens, i, word + "s"), 1, at);
     }
 
     private void grammar() {

@@ -156,6 +156,12 @@ final class WishEdges {
         e.is(wait, 0, "push", 0, 3, 0);
         e.is(wait, 11, "push", 0, 3, 1);
         e.is(wait, -1, "push", 0, 3, 2);
+        // Each even HOUR takes it one on; it comes up at flood by a push in the odd HOUR in which it is on 10, and no other.
+        EbbWreck odd = e.told(shore(12, 1, 0, 1) + DriftEdges.currents(11, "flood 1 ebb 0") + "beach 11; rule 11 to 11 on flood to 2;" + thing(0, 0));
+        e.is(odd, 21, "comes", 0);
+        e.is(odd, 1, "pushes", 0, 2);
+        e.is(odd, 19, "push", 0, 2, 0);
+        e.is(odd, 0, "way", 0, 2, 0);
     }
 
     private void soonest() {
@@ -171,6 +177,9 @@ final class WishEdges {
         e.is(fast, 0, "pushes", 0, 0);
         e.is(fast, 7, "comes", 0);
         e.is(fast, 4, "soonest", 0, 0);
+        // At slack it lies on the BEACH, if it is not pushed; a HOUR later the ebb would take it off.
+        EbbWreck lies = e.told(shore(3, 1, 1, 1) + "beach 1; current 1 flood 1 ebb 1; rule 1 to 1 on ebb to 0;" + thing(1, 1));
+        e.is(lies, 2, "soonest", 0, 0);
         e.says(27, "NONE, -2 as pushes().");
         e.is(x, -1, "soonest", 2, 5);
         e.is(x, -1, "soonest", 6, 5);
@@ -404,8 +413,10 @@ final class WishEdges {
             shore(12, 5, 0, 5) + "beach 4; rule 0 to 11 on flood to 0;" + steps(new int[] {-1, -1, 0, -1, 3, 0, -1, -2, 0, 0, 3, -1},
                     new int[] {-3, 3, -2, 0, -3, 3, 1, 2, -2, -2, -2, 0}),
             shore(12, 5, 0, 2) + "beach 1; rule 0 to 11 on ebb to 0;" + steps(new int[] {-1, -3, 2, 2, -3, -3, -2, 0, 0, 0, 0, 1},
-                    new int[] {0, -3, -3, 0, -3, -2, 3, -2, -1, 2, 1, -1})};
-        int[] best = {2, 14, 3, 8, 3};
+                    new int[] {0, -3, -3, 0, -3, -2, 3, -2, -1, 2, 1, -1}),
+            shore(12, 11, 5, 11) + "beach 2; rule 0 to 11 on flood slack ebb to 0;" + steps(new int[] {3, -3, 1, 0, -2, -3, -1, 3, -3, 0, -3, 0},
+                    new int[] {-3, -1, -1, 0, -3, -2, -3, 2, 1, -1, 0, -2})};
+        int[] best = {2, 14, 3, 8, 3, 27};
         for (int i = 0; i < slow.length; i++) {
             EbbWreck x = e.told(slow[i]);
             e.is(x, best[i], "drops", 0);
