@@ -298,6 +298,10 @@ final class FloatEdges {
         e.is(known, -1, "ask", 0);
         EbbWreck one = floats(WIDE, 0, 5, 0, 1, 5, 5, 1, 2, 5);
         e.is(one, -1, "ask", 0);
+        // Flood is 1, 2 or 3, and eleven HOURS long: from 0 on all are on 11 then.
+        EbbWreck far = floats(shore(12, 11, 1, 12), 0, 10, 0, 1, 11, 5, 12, 13, 5);
+        e.is(far, 3, "fits", 0);
+        e.is(far, -1, "ask", 0);
         EbbWreck never = floats(BARE, 0, 0, 0, 0, 1);
         e.is(never, -1, "ask", 0);
         e.is(e.told(BARE), -6, "ask", 0);
@@ -306,6 +310,7 @@ final class FloatEdges {
         e.is(floats(BARE, 0, 0, 0, 0), -2, "ask", 0);
         e.says(44, "(as now without).");
         e.is(known, 7, "leaves", 0);
+        e.is(far, 3, "leaves", 0);
         e.is(one, 1, "leaves", 0);
         e.is(never, 0, "leaves", 0);
         e.says(44, "-2, -6 likewise.");
